@@ -1,0 +1,154 @@
+import java.util.Random;
+import java.util.Set;
+import java.util.TreeSet;
+
+/** All promises at once: long runs, in which the class answers as the plain model of the document does. */
+public final class ModelTest {
+    /** Leaves one dot of the first level, below the player. */
+    static final String FIRST_LEVEL =
+        "d10 l15 u60 k r20 d5 r10 u5 r15 d35 k l15 u10 r5 u10 d5 r35 k d5 u10 r5 u5 r20 d5 u22 k d5 r15 ";
+
+    /** Goes through eight levels in fewer than 512 calls. */
+    private static final String EIGHT_LEVELS = FIRST_LEVEL
+        + "d15 l20 u60 k r20 d5 r10 u5 r60 k d30 l20 u5 l15 k u5 l5 u5 l35 d5 u10 k l5 u5 l20 d5 l5 r18 "
+        + "u60 k d10 l15 u60 k r59 d5 k r10 u39 l20 k d5 l15 d5 l5 d10 u5 l35 k u5 l5 u10 d10 r5 d10 l5 d5 "
+        + "l15 k d15 l10 u29 r60 k d5 r10 u60 k r20 d20 l29 k u5 l15 u5 l5 u5 l35 k u5 l5 u5 l20 d5 l5 d5 "
+        + "l35 k d5 l5 d60 k l60 k u30 r15 d5 r20 k u5 r15 d20 l29 k r10 u24 l5 r60 k d5 r5 d5 r20 u5 r5 "
+        + "u10 l5 k u10 l5 d5 l10 u5 l5 d10 l15 k d5 l5 u60 k r20 d5 r15 u5 r5 d34 k l25 u5 l10 u10 l5 u5 "
+        + "k l35 u5 d10 l5 d5 k l15 d5 l5 u10 l5 u10 r5 u5 k r15 u5 r5 d20 l10 u60 k r20 d5 r15 u5 r10 d35 "
+        + "k l20 r10 l5 u10 r5 u5 r35 k u5 d10 r5 d5 r20 u5 r5 u10 k l5 u10 l60 k d5 l15 d15 l15 u60 k r20 "
+        + "d5 r15 u5 l5 r20 k d30 l15 u10 r5 k u10 d5 r35 l25 k d15 l20 u5 l5 u14 l5 k u10 r5 u5 r20 d15";
+
+    /** Rules that a run of calls has to reach, or else these tests would not see them broken. */
+    private static final String[] RULES = {
+        "a drawn direction is not taken", "a drawn direction is not taken, and the order goes on from 0",
+        "a drawn direction is taken", "a frightened hunter changes cells with the player",
+        "a hunter changes cells with the player", "a hunter goes round a side", "a leaving hunter is not frightened",
+        "a life is lost", "a life is won", "a reset during a game", "a reset without a game",
+        "aim in chase of hunter 1", "aim in chase of hunter 2", "aim in chase of hunter 3", "aim in chase of hunter 4",
+        "aim in scatter of hunter 1", "aim in scatter of hunter 2", "aim in scatter of hunter 3",
+        "aim in scatter of hunter 4", "aim: the gate", "an energizer during fright", "an energizer ends a chain",
+        "eaten as number 1 of a chain or later", "eaten as number 2 of a chain or later",
+        "eaten as number 3 of a chain or later", "eaten as number 4 of a chain or later", "fright is over",
+        "hunter 1 has left", "hunter 2 aims outside of the maze", "hunter 2 has left",
+        "hunter 3 aims outside of the maze", "hunter 3 has left", "hunter 4 has left", "hunter 4 is near in chase",
+        "level 2", "level 3", "level 4", "level 5", "level 6", "level 7", "level 8", "level 9", "the game is over",
+        "the last chase", "the least fright by the bound", "the least fright by the rule",
+        "the player comes to a wall", "the player dies during fright", "the player goes on",
+        "the player goes round a side", "the player stops though it goes straight on", "the player stops to turn",
+        "the second scatter", "the third scatter", "two directions are as near",
+    };
+
+    private final Check check = new Check();
+    private final Set<String> seen = new TreeSet<>();
+
+    public static void main(String[] args) {
+        ModelTest test = new ModelTest();
+        test.eightLevels();
+        test.bots();
+        test.frameByFrame();
+        for (int seed = 1; seed <= 60; seed++) {
+            test.anyCalls(seed);
+        }
+        for (String rule : RULES) {
+            test.check.holds("a run reaches: " + rule, test.seen.contains(rule));
+        }
+        test.check.end();
+    }
+
+    private void eightLevels() {
+        Run run = new Run(check, "eight levels");
+        run.coin();
+        run.start();
+        int calls = 0;
+        for (String move : EIGHT_LEVELS.split(" ")) {
+            if (move.equals("k")) {
+                run.kick();
+                continue;
+            }
+            run.stick("nuldr".indexOf(move.charAt(0)) - 1);
+            run.frames(Integer.parseInt(move.substring(1)));
+            run.compareState();
+            if (calls++ % 10 == 0) {
+                run.compareMaze();
+            }
+            if (calls % 40 == 0) {
+                run.comparePicture();
+            }
+        }
+        seen.addAll(run.model.seen);
+    }
+
+    private void bots() {
+        bot("a bot for dots", new Bot(6, 1000, 0, 0));
+        bot("a bot for hunters", new Bot(7, 1000, 3000, 0));
+        bot("a bot that flees", new Bot(5, -500, 0, 0));
+        bot("a bot that hunts and leaves the dots", new Bot(7, -500, 3000, 0));
+        bot("a bot that turns seldom", new Bot(6, 1000, 3000, 1500));
+    }
+
+    private void bot(String name, Bot bot) {
+        Run run = new Run(check, name);
+        run.coin();
+        run.start();
+        bot.play(run, 40, 3000);
+        run.compareMaze();
+        run.comparePicture();
+        seen.addAll(run.model.seen);
+    }
+
+    /** Every frame of two lives and its picture, without a stick and with one. */
+    private void frameByFrame() {
+        for (int seed = 1; seed <= 3; seed++) {
+            Random random = new Random(seed);
+            Run run = new Run(check, "frame by frame " + seed);
+            run.coin();
+            run.start();
+            for (int frame = 0; frame < 300; frame++) {
+                if (random.nextInt(12) == 0) {
+                    run.stick(random.nextInt(5) - 1);
+                }
+                if (frame % 100 == 99) {
+                    run.kick();
+                }
+                run.frames(1);
+                run.compareState();
+                if (frame % 10 == seed) {
+                    run.comparePicture();
+                }
+            }
+            seen.addAll(run.model.seen);
+        }
+    }
+
+    /** Any calls in any order, wrong ones among them. */
+    private void anyCalls(int seed) {
+        Random random = new Random(seed);
+        Run run = new Run(check, "any calls " + seed);
+        boolean careful = seed % 4 != 0;
+        int most = seed % 3 == 0 ? 60 : 6;
+        while (run.callsLeft() > 40) {
+            int kind = random.nextInt(100);
+            if (kind < 4) {
+                run.coin();
+            } else if (kind < 8) {
+                run.start();
+            } else if (kind < 10) {
+                run.frames(new int[] {0, -1, 61, 60}[random.nextInt(4)]);
+            } else if (kind < 12) {
+                run.kick();
+            } else if (kind < 50) {
+                run.stick(random.nextInt(7) - 2);
+            } else {
+                if (careful && run.model.dog >= 59) {
+                    run.kick();
+                }
+                run.frames(1 + random.nextInt(most));
+            }
+            run.compareState();
+        }
+        run.compareMaze();
+        run.comparePicture();
+        seen.addAll(run.model.seen);
+    }
+}
