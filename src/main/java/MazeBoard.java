@@ -169,7 +169,7 @@ public final class MazeBoard {
     }
 
     private static int nextRow(int row, int direction) {
-        return row + rowStep(direction);
+        return direction == UP ? row - 1 : direction == DOWN ? row + 1 : row;
     }
 
     private static int columnStep(int direction) {
@@ -545,15 +545,15 @@ public final class MazeBoard {
         private void setAim(Actor hunter, int number) {
             if (hunter.leaving) {
                 hunter.aimAt(GATE_COLUMN, GATE_ROW);
-            } else if (isScatter()) {
-                aimAtCorner(hunter, number);
+            } else if (isScatter() || number == 4 && isNearPlayer(hunter)) {
+                hunter.aimAt(number == 1 || number == 3 ? 11 : 1, number <= 2 ? 1 : 7);
             } else {
                 aimAtPlayer(hunter, number);
             }
         }
 
-        private void aimAtCorner(Actor hunter, int number) {
-            hunter.aimAt(number == 1 || number == 3 ? 11 : 1, number <= 2 ? 1 : 7);
+        private boolean isNearPlayer(Actor hunter) {
+            return distance(hunter.column, hunter.row, player.column, player.row) < SHY_DISTANCE;
         }
 
         private void aimAtPlayer(Actor hunter, int number) {
@@ -564,15 +564,9 @@ public final class MazeBoard {
             } else if (number == 3) {
                 hunter.aimAt(2 * (player.column + across) - actors[1].column,
                     2 * (player.row + down) - actors[1].row);
-            } else if (number == 4 && isNearPlayer(hunter)) {
-                aimAtCorner(hunter, number);
             } else {
                 hunter.aimAt(player.column, player.row);
             }
-        }
-
-        private boolean isNearPlayer(Actor hunter) {
-            return distance(hunter.column, hunter.row, player.column, player.row) < SHY_DISTANCE;
         }
 
         private void meetHunters() {

@@ -8,12 +8,16 @@ public final class FramesTest {
         playerGoesRound(check);
         dotsAndEnergizers(check);
         turningAbout(check);
+        turningAboutInCell(check);
         huntersLeave(check);
         huntersScatter(check);
         huntersChase(check);
         death(check);
         chainAndExtraLife(check);
+        extraLifeAtTheEdge(check);
+        extraLifeInEachGame(check);
         nextLevel(check);
+        deathWithLastDot(check);
         check.end();
     }
 
@@ -140,6 +144,26 @@ public final class FramesTest {
         check.due("hunter 1 chooses by the number drawn", Play.tell(board, 1), "5,2 u F");
     }
 
+    /** PROGRESS is 0 for hunters too, where their steps add up to just 1. */
+    private static void turningAboutInCell(Check check) {
+        float half = 0.19f * (1f + 0.04f * 1) / 2f;
+        MazeBoard board = Play.started(ModelTest.BEFORE_TURN);
+        check.due("hunter 3 before", Play.tell(board, 3), "4,7 l F");
+        check.due("its progress", board.progress(3), 0f);
+        board.frames(1);
+        check.due("FRIGHT", board.look(7), 85);
+        check.due("hunter 3 turns about in its cell", Play.tell(board, 3), "4,7 r F");
+        check.due("its progress then", board.progress(3), half);
+
+        board = Play.started(ModelTest.BEFORE_NO_TURN);
+        check.due("hunter 3 before", Play.tell(board, 3), "11,7 l");
+        check.due("its progress", board.progress(3), 0f);
+        board.frames(1);
+        check.due("FRIGHT", board.look(7), 85);
+        check.due("hunter 3 has a wall behind it", Play.tell(board, 3), "11,7 l F");
+        check.due("its progress then", board.progress(3), half);
+    }
+
     private static void huntersLeave(Check check) {
         MazeBoard board = Play.started("l39");
         check.due("hunter 2 rests", Play.tell(board, 2), "6,4 u L1");
@@ -249,6 +273,31 @@ public final class FramesTest {
         check.due("LIVES grow once", board.look(3), 4);
     }
 
+    private static void extraLifeAtTheEdge(Check check) {
+        MazeBoard board = Play.started(ModelTest.BEFORE_3000);
+        check.due("score below the edge", board.look(1), 2950);
+        check.due("LIVES below the edge", board.look(3), 3);
+        board.frames(1);
+        check.due("score at the edge", board.look(1), 3000);
+        check.due("LIVES at the edge", board.look(3), 4);
+    }
+
+    private static void extraLifeInEachGame(Check check) {
+        MazeBoard board = Play.started(ModelTest.BEFORE_3000 + " d1");
+        for (int i = 0; i < 40 && board.look(0) == 1; i++) {
+            board.kick();
+            board.frames(60);
+        }
+        check.due("the game is over", board.look(0), 0);
+        board.kick();
+        board.coin();
+        board.start();
+        Play.play(board, ModelTest.BEFORE_3000);
+        check.due("LIVES in the second game", board.look(3), 3);
+        board.frames(1);
+        check.due("LIVES at the edge in the second game", board.look(3), 4);
+    }
+
     private static void nextLevel(Check check) {
         MazeBoard board = Play.started(ModelTest.FIRST_LEVEL);
         check.due("LEVEL", board.look(4), 1);
@@ -265,5 +314,23 @@ public final class FramesTest {
         board.frames(1);
         check.due("progress(0) in level 2", board.progress(0), 0.2f * (1f + 0.05f * 2));
         check.due("progress(1) in level 2", board.progress(1), 0.19f * (1f + 0.04f * 2));
+    }
+
+    /** The level waits for a frame in which the player does not die. */
+    private static void deathWithLastDot(Check check) {
+        MazeBoard board = Play.started(ModelTest.BEFORE_LAST_DEATH);
+        check.due("left", board.look(6), 1);
+        int lives = board.look(3);
+        board.frames(1);
+        check.due("left after death", board.look(6), 0);
+        check.due("LIVES after death", board.look(3), lives - 1);
+        check.due("LEVEL after death", board.look(4), 1);
+        check.due("all are placed", Play.tellAll(board), Play.PLACED);
+        board.frames(1);
+        check.due("LEVEL a frame later", board.look(4), 2);
+        check.due("left a frame later", board.look(6), 54);
+        check.due("all are placed again", Play.tellAll(board), Play.PLACED);
+        check.due("progress(0)", board.progress(0), 0f);
+        check.due("MODE time", board.look(8), 0);
     }
 }

@@ -149,7 +149,7 @@ final class Model {
         if (score >= 3000 && !extra) {
             extra = true;
             lives++;
-            see("a life is won");
+            see(score == 3000 ? "a life is won with 3000 points" : "a life is won with more points");
         }
     }
 
@@ -164,7 +164,7 @@ final class Model {
     }
 
     private void frame() {
-        boolean dot = false, prize = false, died = false;
+        boolean dot = false, prize = false, died = false, turned = false;
         if (on) {
             int[] ox = x.clone();
             int[] oy = y.clone();
@@ -207,6 +207,7 @@ final class Model {
                 }
                 if (c == 'o') {
                     prize = true;
+                    turned = true;
                     points(50);
                     fright = 100 - 15 * level;
                     see(fright == 10, "the least fright by the rule");
@@ -220,6 +221,7 @@ final class Model {
                         if (leaving[h]) continue;
                         scared[h] = true;
                         int back = (dir[h] + 2) % 4;
+                        see(prog[h] == 0, "a hunter with PROGRESS 0 " + (open(h, back) ? "turns" : "cannot turn") + " about");
                         if (prog[h] != 0) {
                             enter(h);
                             dir[h] = back;
@@ -254,6 +256,7 @@ final class Model {
                 boolean changed = x[h] == ox[0] && y[h] == oy[0] && ox[h] == x[0] && oy[h] == y[0];
                 if (!same && !changed) continue;
                 see(!same, (scared[h] ? "a frightened hunter" : "a hunter") + " changes cells with the player");
+                see(!same && turned, "a hunter that turned about changes cells with the player");
                 if (scared[h]) {
                     see("eaten as number " + (chain + 1) + " of a chain or later");
                     int p = 200;
@@ -268,6 +271,7 @@ final class Model {
                     deaths++;
                     lives--;
                     see(fright > 0, "the player dies during fright");
+                    see(left() == 0, "the player dies with the last dot");
                     see(lives == 0 ? "the game is over" : "a life is lost");
                     if (lives == 0) on = false;
                     else place();
