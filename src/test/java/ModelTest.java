@@ -79,6 +79,11 @@ public final class ModelTest {
         Run run = new Run(check, name);
         run.coin();
         run.start();
+        play(run, moves, lastLevel);
+        return run;
+    }
+
+    private void play(Run run, String moves, int lastLevel) {
         int calls = 0;
         for (String move : moves.trim().split(" ")) {
             if (move.equals("k")) {
@@ -99,7 +104,6 @@ public final class ModelTest {
             }
         }
         seen.addAll(run.model.seen);
-        return run;
     }
 
     private void scripts() {
@@ -108,6 +112,10 @@ public final class ModelTest {
         script("a hunter cannot turn about", BEFORE_NO_TURN + " l1 l20", 0);
         script("3000 points", BEFORE_3000 + " d1 d20", 0);
         script("death with the last dot", BEFORE_LAST_DEATH + " l1 l1 l20", 0);
+        // from level 4 on the steps of six cells without a stop add up to hardly more than 1
+        Run straight = script("straight on", EIGHT_LEVELS, 6);
+        play(straight, "k u5 l5 u5 l1 n23 n1 n1 n3 n1", 0);
+        check.due("straight on: the last cell", straight.model.x[0] + "," + straight.model.y[0], "9,4");
         for (int level = 2; level <= 8; level++) {
             anyCalls(script("any calls in level " + level, EIGHT_LEVELS, level), level);
         }
