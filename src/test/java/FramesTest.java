@@ -147,7 +147,7 @@ public final class FramesTest {
     /** PROGRESS is 0 for hunters too, where their steps add up to just 1. */
     private static void turningAboutInCell(Check check) {
         float half = 0.19f * (1f + 0.04f * 1) / 2f;
-        MazeBoard board = Play.started(ModelTest.BEFORE_TURN);
+        MazeBoard board = Play.started(Ways.BEFORE_TURN);
         check.due("hunter 3 before", Play.tell(board, 3), "4,7 l F");
         check.due("its progress", board.progress(3), 0f);
         board.frames(1);
@@ -155,7 +155,7 @@ public final class FramesTest {
         check.due("hunter 3 turns about in its cell", Play.tell(board, 3), "4,7 r F");
         check.due("its progress then", board.progress(3), half);
 
-        board = Play.started(ModelTest.BEFORE_NO_TURN);
+        board = Play.started(Ways.BEFORE_NO_TURN);
         check.due("hunter 3 before", Play.tell(board, 3), "11,7 l");
         check.due("its progress", board.progress(3), 0f);
         board.frames(1);
@@ -274,7 +274,7 @@ public final class FramesTest {
     }
 
     private static void extraLifeAtTheEdge(Check check) {
-        MazeBoard board = Play.started(ModelTest.BEFORE_3000);
+        MazeBoard board = Play.started(Ways.BEFORE_3000);
         check.due("score below the edge", board.look(1), 2950);
         check.due("LIVES below the edge", board.look(3), 3);
         board.frames(1);
@@ -283,23 +283,19 @@ public final class FramesTest {
     }
 
     private static void extraLifeInEachGame(Check check) {
-        MazeBoard board = Play.started(ModelTest.BEFORE_3000 + " d1");
-        for (int i = 0; i < 40 && board.look(0) == 1; i++) {
-            board.kick();
-            board.frames(60);
-        }
+        MazeBoard board = Play.started(Ways.BEFORE_3000 + " d1");
+        Play.untilOver(board);
         check.due("the game is over", board.look(0), 0);
-        board.kick();
         board.coin();
         board.start();
-        Play.play(board, ModelTest.BEFORE_3000);
+        Play.play(board, Ways.BEFORE_3000);
         check.due("LIVES in the second game", board.look(3), 3);
         board.frames(1);
         check.due("LIVES at the edge in the second game", board.look(3), 4);
     }
 
     private static void nextLevel(Check check) {
-        MazeBoard board = Play.started(ModelTest.FIRST_LEVEL);
+        MazeBoard board = Play.started(Ways.FIRST_LEVEL);
         check.due("LEVEL", board.look(4), 1);
         check.due("left", board.look(6), 1);
         int score = board.look(1);
@@ -318,7 +314,7 @@ public final class FramesTest {
 
     /** The level waits for a frame in which the player does not die. */
     private static void deathWithLastDot(Check check) {
-        MazeBoard board = Play.started(ModelTest.BEFORE_LAST_DEATH);
+        MazeBoard board = Play.started(Ways.BEFORE_LAST_DEATH);
         check.due("left", board.look(6), 1);
         int lives = board.look(3);
         board.frames(1);

@@ -4,35 +4,8 @@ import java.util.TreeSet;
 
 /** All promises at once: long runs, in which the class answers as the plain model of the document does. */
 public final class ModelTest {
-    /** Leaves one dot of the first level, below the player. */
-    static final String FIRST_LEVEL =
-        "d10 l15 u60 k r20 d5 r10 u5 r15 d35 k l15 u10 r5 u10 d5 r35 k d5 u10 r5 u5 r20 d5 u22 k d5 r15 ";
-
     /** Goes through eight levels in fewer than 512 calls. */
-    private static final String EIGHT_LEVELS = FIRST_LEVEL
-        + "d15 l20 u60 k r20 d5 r10 u5 r60 k d30 l20 u5 l15 k u5 l5 u5 l35 d5 u10 k l5 u5 l20 d5 l5 r18 "
-        + "u60 k d10 l15 u60 k r59 d5 k r10 u39 l20 k d5 l15 d5 l5 d10 u5 l35 k u5 l5 u10 d10 r5 d10 l5 d5 "
-        + "l15 k d15 l10 u29 r60 k d5 r10 u60 k r20 d20 l29 k u5 l15 u5 l5 u5 l35 k u5 l5 u5 l20 d5 l5 d5 "
-        + "l35 k d5 l5 d60 k l60 k u30 r15 d5 r20 k u5 r15 d20 l29 k r10 u24 l5 r60 k d5 r5 d5 r20 u5 r5 "
-        + "u10 l5 k u10 l5 d5 l10 u5 l5 d10 l15 k d5 l5 u60 k r20 d5 r15 u5 r5 d34 k l25 u5 l10 u10 l5 u5 "
-        + "k l35 u5 d10 l5 d5 k l15 d5 l5 u10 l5 u10 r5 u5 k r15 u5 r5 d20 l10 u60 k r20 d5 r15 u5 r10 d35 "
-        + "k l20 r10 l5 u10 r5 u5 r35 k u5 d10 r5 d5 r20 u5 r5 u10 k l5 u10 l60 k d5 l15 d15 l15 u60 k r20 "
-        + "d5 r15 u5 l5 r20 k d30 l15 u10 r5 k u10 d5 r35 l25 k d15 l20 u5 l5 u14 l5 k u10 r5 u5 r20 d15";
-
-    /** Hunter 3 has just entered (4, 7) with PROGRESS 0 when an energizer is eaten, and turns about. */
-    static final String BEFORE_TURN =
-        "r10 d5 k d60 d7 k r15 r60 r10 k u30 r23 k l20 d5 l10 u5 l19";
-
-    /** Hunter 3 has just entered (11, 7) with PROGRESS 0, and there is a wall behind it. */
-    static final String BEFORE_NO_TURN =
-        "r10 d5 k d60 d7 k r15 r60 r14 k u30 r28 k l20 d5 l10 u5 l19";
-
-    /** In the next frame an energizer brings the score to just 3000. */
-    static final String BEFORE_3000 =
-        "r60 k d5 l60 k r60 k u25 d60 k u30 d15 r25 k l20 r5 u20 d29";
-
-    /** In the next frame the player eats the last dot of the first level and is caught there. */
-    static final String BEFORE_LAST_DEATH = FIRST_LEVEL + "k l23 k r30 k l34 k r39 k d12 k l4";
+    private static final String EIGHT_LEVELS = Ways.toLevel(9) + " d10";
 
     /** Rules that a run of calls has to reach, or else these tests would not see them broken. */
     private static final String[] RULES = {
@@ -108,13 +81,13 @@ public final class ModelTest {
 
     private void scripts() {
         script("eight levels", EIGHT_LEVELS, 0);
-        script("a hunter turns about", BEFORE_TURN + " l1 l20", 0);
-        script("a hunter cannot turn about", BEFORE_NO_TURN + " l1 l20", 0);
-        script("3000 points", BEFORE_3000 + " d1 d20", 0);
-        script("death with the last dot", BEFORE_LAST_DEATH + " l1 l1 l20", 0);
+        script("a hunter turns about", Ways.BEFORE_TURN + " l1 l20", 0);
+        script("a hunter cannot turn about", Ways.BEFORE_NO_TURN + " l1 l20", 0);
+        script("3000 points", Ways.BEFORE_3000 + " d1 d20", 0);
+        script("death with the last dot", Ways.BEFORE_LAST_DEATH + " l1 l1 l20", 0);
         // from level 4 on the steps of six cells without a stop add up to hardly more than 1
         Run straight = script("straight on", EIGHT_LEVELS, 6);
-        play(straight, "k u5 l5 u5 l1 n23 n1 n1 n3 n1", 0);
+        play(straight, "l10 k u5 l5 u5 l1 n23 n1 n1 n3 n1", 0);
         check.due("straight on: the last cell", straight.model.x[0] + "," + straight.model.y[0], "9,4");
         for (int level = 2; level <= 8; level++) {
             anyCalls(script("any calls in level " + level, EIGHT_LEVELS, level), level);

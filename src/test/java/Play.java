@@ -25,13 +25,28 @@ final class Play {
     /** "l10": the stick to the left (u, l, d, r; n for nowhere), then ten frames; "k": a kick. */
     static void play(MazeBoard board, String moves) {
         for (String move : moves.trim().split(" +")) {
+            if (move.isEmpty()) {
+                continue;
+            }
             if (move.equals("k")) {
                 board.kick();
                 continue;
             }
             board.stick("nuldr".indexOf(move.charAt(0)) - 1);
-            board.frames(Integer.parseInt(move.substring(1)));
+            int frames = Integer.parseInt(move.substring(1));
+            if (board.frames(frames) != frames) {
+                throw new IllegalStateException(move + " was refused");
+            }
         }
+    }
+
+    /** Lets frames pass, with kicks, until the player has lost all lives. */
+    static void untilOver(MazeBoard board) {
+        for (int i = 0; i < 40 && board.look(0) == 1; i++) {
+            board.kick();
+            board.frames(60);
+        }
+        board.kick();
     }
 
     /** Column, row and direction, then F for frightened, L for leaving with the frames to rest. */

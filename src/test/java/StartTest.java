@@ -40,10 +40,7 @@ public final class StartTest {
 
     private static MazeBoard over() {
         MazeBoard board = Play.started(Play.TO_ENERGIZER + " n30");
-        for (int i = 0; i < 40 && board.look(0) == 1; i++) {
-            board.kick();
-            board.frames(60);
-        }
+        Play.untilOver(board);
         return board;
     }
 
@@ -57,7 +54,6 @@ public final class StartTest {
         int best = board.look(2);
         check.due("the best", best, board.look(1));
         check.due("start() without another coin", board.start(), false);
-        board.kick();
         board.coin();
         check.due("start() of a second game", board.start(), true);
         int[] due = {1, 0, best, 3, 1, 0, 54, 0, 0, 0, 0};
@@ -71,7 +67,6 @@ public final class StartTest {
     /** The generator is 1 again, so that frightened hunters take the same ways. */
     private static void sameGameTwice(Check check) {
         MazeBoard board = over();
-        board.kick();
         board.coin();
         board.start();
         MazeBoard other = Play.started();
