@@ -178,22 +178,26 @@ public final class EdgesOfHuntersTest {
     /** Hunter 1 alone is frightened, and chooses eight times. */
     private void drawnNumbers() {
         check.sentence(STEP_3, "to DRAW, g becomes g * 1103515245 + 12345 (wrapping), the number drawn is (g >> 16) & 3.");
-        MazeBoard board = Play.started(Play.TO_ENERGIZER);
+        MazeBoard board = Play.started(Play.TO_ENERGIZER + " k");
         long generator = 1;
         int chosen = 0;
-        board.kick();
+        int column = board.actor(1, 0);
+        int row = board.actor(1, 1);
+        int direction = board.actor(1, 2);
         for (int frame = 31; frame < 115; frame++) {
-            int column = board.actor(1, 0);
-            int row = board.actor(1, 1);
-            int came = board.actor(1, 2);
             board.frames(1);
-            if (board.actor(1, 0) == column && board.actor(1, 1) == row) {
+            int newColumn = board.actor(1, 0);
+            int newRow = board.actor(1, 1);
+            if (newColumn == column && newRow == row) {
                 continue;
             }
             generator = (generator * 1103515245L + 12345L) % (1L << 32);
             int drawn = (int) (generator / 65536 % 4);
-            int due = firstOpen(board.actor(1, 0), board.actor(1, 1), came, drawn);
+            int due = firstOpen(newColumn, newRow, direction, drawn);
             check.due("hunter 1's direction in frame " + frame, board.actor(1, 2), due);
+            column = newColumn;
+            row = newRow;
+            direction = due;
             chosen++;
         }
         check.due("numbers drawn", chosen, 8);

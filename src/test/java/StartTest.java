@@ -6,6 +6,7 @@ public final class StartTest {
         newGame(check);
         gameAfterGame(check);
         sameGameTwice(check);
+        voicesGoOn(check);
         check.end();
     }
 
@@ -77,5 +78,16 @@ public final class StartTest {
             check.due("the second game after " + move, Play.tellAll(board), Play.tellAll(other));
         }
         check.due("a drawn way", Play.tell(other, 1), "1,4 r");
+    }
+
+    /** What start() does not name stays as it is: the sound of the last death goes on. */
+    private static void voicesGoOn(Check check) {
+        MazeBoard board = Play.started("n60 k n60 k n32 k n60 k n60 k n32 k n60 k n60 k n32");
+        board.coin();
+        float sound = board.sound();
+        check.due("volume(2) when the game is over", board.volume(2), 1.5f);
+        check.due("start()", board.start(), true);
+        check.due("volume(2) after start()", board.volume(2), 1.5f);
+        check.due("sound() after start()", board.sound(), sound);
     }
 }
