@@ -115,6 +115,8 @@ public final class EdgesOfCallsTest {
         board.frames(4);
         check.due("the player, after stick(-1)", Play.tell(board, 0), "7,6 r");
         check.holds("no stick stops it", board.progress(0) > 0f);
+        check.due("stick(0) without a game", new MazeBoard().stick(0), true);
+        check.due("stick(4) without a game", new MazeBoard().stick(4), false);
     }
 
     private void kick() {
