@@ -182,6 +182,16 @@ public final class EdgesOfMeetingTest {
         check.due("left", board.look(6), 0);
         check.due("LIVES", board.look(3), lives - 1);
         check.due("LEVEL", board.look(4), 1);
+        board = Play.started("n60 k n60 k n32 k " + Ways.BEFORE_LAST_DEATH);
+        check.due("left, with the last life", board.look(6), 1);
+        check.due("the last life", board.look(3), 1);
+        board.frames(1);
+        check.due("left, when the game is over", board.look(6), 0);
+        check.due("no game is on", board.look(0), 0);
+        check.due("LEVEL when the game is over", board.look(4), 1);
+        board.frames(1);
+        check.due("LEVEL later", board.look(4), 1);
+        check.due("left later", board.look(6), 0);
     }
 
     private void newLevelIsFull() {
