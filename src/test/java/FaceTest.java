@@ -5,7 +5,7 @@ import java.lang.reflect.Modifier;
 import java.util.Set;
 import java.util.TreeSet;
 
-/** The public face of the document, and rule 1 of LANGUAGE.md: all of it, and nothing more. */
+/** The public face of the document, and rule 1 of LANGUAGE.md: all of it, and nothing more. Small classes. */
 public final class FaceTest {
     private static final String[] FACE = {
         "boolean coin()", "boolean start()", "boolean stick(int)", "float progress(int)", "float sound()",
@@ -44,7 +44,26 @@ public final class FaceTest {
             check.holds(inside + " is hidden", !Modifier.isPublic(modifiers) && !Modifier.isProtected(modifiers));
             check.holds(inside + " is static", Modifier.isStatic(modifiers));
         }
+        check.holds("the file has at most twelve classes", 1 + board.getDeclaredClasses().length <= 12);
+        isSmall(check, board);
+        for (Class<?> inside : board.getDeclaredClasses()) {
+            isSmall(check, inside);
+        }
         check.end();
+    }
+
+    /** Rules 5 and 11. */
+    private static void isSmall(Check check, Class<?> some) {
+        int fields = 0;
+        for (Field field : some.getDeclaredFields()) {
+            boolean isStatic = Modifier.isStatic(field.getModifiers());
+            fields += isStatic ? 0 : 1;
+            check.holds(field + " is final if it is static", !isStatic || Modifier.isFinal(field.getModifiers()));
+        }
+        check.holds(some + " has at most twenty fields", fields <= 20);
+        for (Method method : some.getDeclaredMethods()) {
+            check.holds(method + " has at most seven parameters", method.getParameterCount() <= 7);
+        }
     }
 
     private static String tell(Method method) {
